@@ -1,0 +1,83 @@
+import java.lang.reflect.Constructor;
+import java.lang.reflect.Method;
+import java.lang.reflect.Modifier;
+import java.nio.file.Files;
+import java.nio.file.Path;
+import java.util.ArrayList;
+import java.util.List;
+import java.util.TreeSet;
+
+/** The public face is that of the document, and the source keeps to LANGUAGE.md where a look at its text can tell. */
+public final class FaceTest {
+    public static void main(String[] args) throws Exception {
+        TreeSet<String> due = new TreeSet<>();
+        boolean inFace = false;
+        for (String line : Files.readAllLines(Path.of("../shared/DOC.md"))) {
+            if (line.startsWith("public final class")) {
+                inFace = true;
+            } else if (line.startsWith("}")) {
+                inFace = false;
+            } else if (inFace && line.trim().startsWith("public ")) {
+                due.add(plain(line.trim().replace(";", "")));
+            }
+        }
+        Check.due("the document has a face", true, due.size() > 50);
+
+        TreeSet<String> got = new TreeSet<>();
+        for (Constructor<?> c : Rewinder.class.getDeclaredConstructors()) {
+            got.add(plain("public Rewinder(" + types(c.getParameterTypes()) + ")" + thrown(c.getExceptionTypes())));
+            Check.due("the constructor is public", true, Modifier.isPublic(c.getModifiers()));
+        }
+        for (Method m : Rewinder.class.getDeclaredMethods()) {
+            if (Modifier.isPublic(m.getModifiers())) {
+                got.add(plain("public " + m.getReturnType().getSimpleName() + " " + m.getName() + "("
+                    + types(m.getParameterTypes()) + ")" + thrown(m.getExceptionTypes())));
+            } else {
+                Check.due(m + " is private", true, Modifier.isPrivate(m.getModifiers()));
+            }
+        }
+        Check.due("the face", due, got);
+        Check.due("no public fields", 0, Rewinder.class.getFields().length);
+        Check.due("the class is final", true, Modifier.isFinal(Rewinder.class.getModifiers()));
+
+        String source = Files.readString(Path.of("src/main/java/Rewinder.java"));
+        for (String word : new String[] {"->", "::", "instanceof", "Exact(", "catch", "finally", "synchronized",
+            "assert", "\" +", "+ \"", "package ", "Random", "System.nano", "System.current", "Thread", "@",
+            ".equals(", ".hashCode(", "float[]", "double[]", "while"}) {
+            Check.due("the source has " + word, -1, source.indexOf(word));
+        }
+        List<String> imports = new ArrayList<>();
+        for (String line : source.split("\n")) {
+            if (line.startsWith("import ")) {
+                imports.add(line);
+            }
+            Check.due("a line of 120 characters at most: " + line, true, line.length() <= 120);
+        }
+        Check.due("the imports", List.of("import java.util.NoSuchElementException;"), imports);
+        int classes = 1;
+        for (Class<?> inside : Rewinder.class.getDeclaredClasses()) {
+            classes++;
+            Check.due(inside + " is private and static", true,
+                Modifier.isPrivate(inside.getModifiers()) && Modifier.isStatic(inside.getModifiers()));
+        }
+        Check.due("twelve classes at most", true, classes <= 12);
+        Check.finish();
+    }
+
+    private static String types(Class<?>[] types) {
+        StringBuilder text = new StringBuilder();
+        for (Class<?> type : types) {
+            text.append(text.length() == 0 ? "" : ", ").append(type.getSimpleName());
+        }
+        return text.toString();
+    }
+
+    private static String thrown(Class<?>[] types) {
+        return types.length == 0 ? "" : " throws " + types(types);
+    }
+
+    /** A signature without the names of its parameters. */
+    private static String plain(String text) {
+        return text.replaceAll("\\b(int|char) [a-z]+(?=[,)])", "$1");
+    }
+}
