@@ -5,6 +5,7 @@ public final class BranchTest {
         branch();
         branchKeeps();
         select();
+        selectOther();
         difference();
         differenceOfEvents();
         Check.finish();
@@ -96,6 +97,40 @@ public final class BranchTest {
         x.select(1);
         Check.due("P46 behind the events of its end", 8, x.clock());
         Check.due("P46 sound", true, x.isSound());
+        x.select(0);
+        x.go(32);
+        x.branch();
+        x.tick(9);
+        x.select(0);
+        Check.due("P46 before", 0, x.select(2));
+        Check.due("P46 behind the events of the count of its snapshot", 9, x.clock());
+    }
+
+    private static void selectOther() {
+        Rewinder x = Check.begun("k 0 1; j 1 4; c 0 9; k 2 2; c 0 6; k 2 3; o 0; j 2 5; k 3 3; j 0 9");
+        x.feed(1);
+        x.feed(2);
+        x.branch();
+        x.feed(3);
+        x.patch(0, 'i', 1, 0, 0);
+        x.patch(8, 'o', 1, 0, 0);
+        x.patch(9, 'j', 1, 8, 0);
+        x.forward(36);
+        long second = x.sum();
+        int back = x.returnsTo(0, 0);
+        x.select(0);
+        x.change(63, 4);
+        x.patch(8, 'o', 0, 0, 0);
+        x.patch(9, 'j', 0, 8, 0);
+        x.forward(36);
+        long first = x.sum();
+        Check.due("P46 other frames", true, back != x.returnsTo(0, 0));
+        Check.due("P46 as many frames", 1, x.frames(0));
+        x.select(1);
+        Check.due("P46 all of the state", second, x.sum());
+        Check.due("P46 its frame", back, x.returnsTo(0, 0));
+        x.select(0);
+        Check.due("P46 all of the state", first, x.sum());
     }
 
     private static void difference() {

@@ -71,6 +71,9 @@ public final class BreakTest {
         Check.due("P22 this one included", 34, x.met(1));
         Check.due("P22 with a register", 1, x.met(2));
         Check.due("P22 with 0 in it", 33, x.met(3));
+        x.addBreak(2, 0, 1, 0);
+        Check.due("P22 with the register 0", 0, x.met(6));
+        x.removeBreak(6);
         Check.due("P22 never", 0, x.met(4));
         Check.due("P22 no such place", 0, x.met(5));
         Check.due("P22 the same once more", 34, x.met(1));

@@ -7,6 +7,7 @@ public final class CodeTest {
         addIsFull();
         setSecond();
         begin();
+        beginFromAnywhere();
         letters();
         ends();
         Check.finish();
@@ -140,6 +141,54 @@ public final class CodeTest {
         Check.due("P4 one snapshot", 1, x.snapshots());
         Check.due("P4 three steps", 3, x.forward(9));
         Check.due("P4 the new instruction", 9, x.register(0, 1));
+    }
+
+    private static void beginFromAnywhere() {
+        Rewinder x = Check.machine("k 0 3; s 0 0; o 0; c 0 4; y; j 0 0; k 1 1; s 1 1; o 1; c 0 10; y");
+        x.setSecond(6);
+        x.begin();
+        long sum = x.sum();
+        x.tick(5);
+        x.feed(6);
+        x.change(0, 7);
+        x.patch(0, 'k', 0, 50, 0);
+        x.forward(9);
+        Check.due("P4 the process 1", 1, x.present());
+        Check.due("P4 with a frame", 1, x.frames(1));
+        x.begin();
+        Check.due("P4 all of the state is as at first", sum, x.sum());
+        Check.due("P4 sound", true, x.isSound());
+        for (int cell = 0; cell < 64; cell++) {
+            Check.due("P4 cell " + cell, 0, x.cell(cell));
+            Check.due("P4 never written " + cell, 0, x.writes(cell));
+            Check.due("P4 hangs on nothing " + cell, 0, x.slice(cell));
+        }
+        x.forward(1);
+        Check.due("P4 the code without the patch", 3, x.register(0, 0));
+        x.tick(8);
+        Check.due("P4 events come as at first", 8, x.clock());
+
+        Rewinder taken = Check.machine("i 0; i 1; j 2 0");
+        taken.begin();
+        taken.feed(4);
+        taken.feed(5);
+        taken.forward(1);
+        taken.begin();
+        Check.due("P4 the console is empty", 0, taken.console());
+        Check.due("P4 and filled anew", 1, taken.feed(6));
+        taken.forward(2);
+        Check.due("P4 from its first number", 6, taken.register(0, 0));
+        Check.due("P4 which is the last one", -1, taken.register(0, 1));
+
+        Rewinder many = Check.loop(100);
+        many.tick(1);
+        many.branch();
+        many.begin();
+        many.forward(5);
+        many.branch();
+        Check.due("P4 a branch has nothing of the branches before", 1, many.snapshots());
+        Check.due("P4 a branch has nothing of the branches before", 0, many.events());
+        Check.due("P4 a branch has nothing of the branches before", 8, many.pages());
     }
 
     private static void letters() {

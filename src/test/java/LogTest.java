@@ -4,6 +4,7 @@ public final class LogTest {
         noRun();
         kept();
         without();
+        lateSums();
         with();
         order();
         inBranches();
@@ -86,6 +87,19 @@ public final class LogTest {
         Check.due("P53 no step more ahead of the end", 5, shorter.without(0));
         Check.due("P54 no step more ahead of the end", 11, shorter.with(0, -4));
         Check.noElement("P54 longer, with the same end", () -> shorter.with(0, -6));
+    }
+
+    private static void lateSums() {
+        Rewinder x = Check.loop(380);
+        x.tick(1);
+        x.forward(3);
+        Check.noElement("P53 ahead of the last sum", () -> x.without(0));
+        x.forward(1);
+        Check.due("P53 the last sum", 384, x.without(0));
+        x.tick(2);
+        x.forward(16);
+        Check.noElement("P53 no sum at 400", () -> x.without(1));
+        Check.due("P54 the last sum", 384, x.with(0, 2));
     }
 
     private static void with() {

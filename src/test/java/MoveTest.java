@@ -214,10 +214,44 @@ public final class MoveTest {
         Check.due("P11 present again", 4, x.next());
         x.go(3);
         Check.due("P11 the process 1", 6, x.next());
+        afterLooking();
         Rewinder over = Check.begun("c 0 2; o 0; c 0 40; k 1 1; j 1 4", 3);
         Check.due("P11 over in a call, while the other one goes on", 2, over.next());
         Check.due("P11 it is", true, over.isOver(0));
         Check.due("P11 with its frames", 2, over.frames(0));
+    }
+
+    private static void afterLooking() {
+        Rewinder x = Check.begun("k 3 1; k 2 1; k 1 1; k 0 1; j 3 0; k 3 2; k 3 2; j 3 5", 5);
+        x.forward(2);
+        x.swap();
+        x.forward(4);
+        x.swap();
+        x.forward(9);
+        x.branch();
+        x.patch(0, 'k', 2, 7, 0);
+        x.forward(5);
+        x.select(0);
+        Check.noElement("P53 not found out", () -> x.without(0));
+        x.go(1);
+        Check.due("P11 looking leaves out nothing for good", 6, x.next());
+        Check.noElement("P53 not found out", () -> x.without(1));
+        x.go(2);
+        Check.due("P11 looking leaves out nothing for good", 3, x.next());
+        x.go(5);
+        Check.due("P11 the process 1 does not come again", 65, x.next());
+        x.go(1);
+        x.branch();
+        x.swap();
+        x.forward(20);
+        x.select(0);
+        x.isSound();
+        x.go(0);
+        Check.due("P11 one step", 1, x.next());
+        Check.due("P11 with the events of this run", 6, x.next());
+        x.select(2);
+        x.go(0);
+        Check.due("P11 with the events of that run", 60, x.next());
     }
 
     private static void finish() {
@@ -246,6 +280,13 @@ public final class MoveTest {
         other.forward(1);
         Check.due("P12 the other one is the present one meanwhile", 5, other.finish());
         Check.due("P12 back", 1, other.place(0));
+        Rewinder swapped = Check.begun("c 0 2; k 0 9; r; k 3 1; j 3 4", 3);
+        swapped.forward(2);
+        swapped.swap();
+        swapped.forward(9);
+        swapped.go(1);
+        Check.due("P12 back, though the other one is the present one then", 2, swapped.finish());
+        Check.due("P12 it is", 1, swapped.present());
         Rewinder ended = Check.begun("c 0 40");
         ended.forward(1);
         Check.due("P12 over with a frame", 1, ended.finish());

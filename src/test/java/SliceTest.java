@@ -6,6 +6,8 @@ public final class SliceTest {
         changes();
         loop();
         processes();
+        rows();
+        atTheLimit();
         Check.finish();
     }
 
@@ -21,6 +23,18 @@ public final class SliceTest {
         for (int step : new int[] {0, -1, 401, 448, 1000, Integer.MAX_VALUE, Integer.MIN_VALUE, 64, -63}) {
             Check.due("P49 no such step " + step, false, x.hangsOn(1, step));
         }
+    }
+
+    private static void atTheLimit() {
+        Rewinder x = Check.begun("k 0 0; k 1 9; j 1 1");
+        Check.stepForward(x, 399);
+        x.patch(1, 's', 0, 1, 0);
+        x.forward(1);
+        Check.due("P49 the step 400", true, x.hangsOn(0, 400));
+        Check.due("P49 the one ahead", false, x.hangsOn(0, 399));
+        Check.due("P49 the 'k'", true, x.hangsOn(0, 398));
+        Check.due("P49 no step 0", false, x.hangsOn(0, 0));
+        Check.due("P48 the step 400, and both 'k'", 3, x.slice(0));
     }
 
     private static void steps(String what, Rewinder x, int cell, int... steps) {
@@ -97,5 +111,39 @@ public final class SliceTest {
         x.forward(9);
         Check.due("both have registers of their own", 2, x.cell(1));
         steps("those of the process 0", x, 1, 1, 6, 7);
+    }
+
+    private static void rows() {
+        Rewinder x = Check.begun("k 0 60; s 0 0; k 1 61; s 1 1; k 2 62; s 2 2; k 3 63; s 3 3; y;"
+            + " k 0 0; k 1 1; k 2 2; k 3 3; s 0 1; s 1 2; s 2 3; s 3 0; l 1 0; s 2 1", 9);
+        x.forward(9);
+        Check.due("P49 asked first of all", true, x.hangsOn(60, 1));
+        Check.due("P25 the process 1", 1, x.present());
+        x.forward(4);
+        steps("cells stay as they were", x, 60, 1, 2);
+        steps("cells stay as they were", x, 61, 3, 4);
+        steps("cells stay as they were", x, 62, 5, 6);
+        steps("cells stay as they were", x, 63, 7, 8);
+        x.forward(4);
+        steps("registers of the process 1", x, 0, 10, 11, 14);
+        steps("registers of the process 1", x, 1, 11, 12, 15);
+        steps("registers of the process 1", x, 2, 12, 13, 16);
+        steps("registers of the process 1", x, 3, 10, 13, 17);
+        x.forward(2);
+        steps("through the cell 0", x, 2, 10, 11, 12, 14, 18, 19);
+        x.change(0, 3);
+        steps("the cell 0 changed", x, 0);
+        steps("the others stay", x, 2, 10, 11, 12, 14, 18, 19);
+        x.go(18);
+        steps("ahead of it", x, 0, 10, 11, 14);
+        x.go(0);
+        steps("at 0", x, 0);
+        Rewinder y = Check.begun("k 0 1; k 1 2; k 2 3; - 3 1 0; s 3 3; - 3 0 2; s 0 3; < 3 2 1; s 0 3");
+        y.forward(5);
+        steps("b, then c", y, 1, 1, 2, 4, 5);
+        y.forward(2);
+        steps("b, then c", y, 1, 1, 3, 6, 7);
+        y.forward(2);
+        steps("b, then c", y, 1, 1, 2, 3, 8, 9);
     }
 }

@@ -111,6 +111,10 @@ public final class SnapshotTest {
         Check.due("P43 wherever one is", 15, x.pages());
         x.branch();
         Check.due("P43 in a branch", 10, x.pages());
+        Rewinder changed = Check.begun("k 1 1; j 1 0");
+        changed.change(63, 1);
+        changed.forward(16);
+        Check.due("P43 the first event", 9, changed.pages());
         Rewinder same = Check.begun("s 0 0; k 1 1; j 1 1");
         same.forward(16);
         Check.due("P43 an 's' of the same number", 9, same.pages());

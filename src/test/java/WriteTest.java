@@ -4,6 +4,7 @@ public final class WriteTest {
         refused();
         writes();
         callers();
+        atTheLimit();
         firstAbove();
         Check.finish();
     }
@@ -93,6 +94,27 @@ public final class WriteTest {
         Check.due("P37 of the process 1", 7, y.writerOf(9));
         y.forward(1);
         Check.due("P38 ahead of the step", 6, y.callerOf(9));
+    }
+
+    private static void atTheLimit() {
+        Rewinder x = Check.begun("c 0 2; r; k 1 9; j 1 2");
+        Check.stepForward(x, 399);
+        Check.noElement("P36 none", () -> x.lastWrite(0));
+        x.patch(2, 's', 0, 1, 0);
+        x.forward(1);
+        Check.due("P26 not over", false, x.isOver(0));
+        Check.due("P24 at the limit", 400, x.end());
+        Check.due("P27 at the place behind", 3, x.place(0));
+        Check.due("P36 the step 400", 399, x.lastWrite(0));
+        Check.due("P37 the step 400", 2, x.writerOf(0));
+        Check.due("P38 the step 400", 1, x.callerOf(0));
+        Check.due("P39 the step 400", 1, x.writes(0));
+        Check.due("P43 the step 400", 9, x.pages());
+        x.branch();
+        Check.due("P36 in a branch", 399, x.lastWrite(0));
+        Check.due("P37 in a branch", 2, x.writerOf(0));
+        Check.due("P38 in a branch", 1, x.callerOf(0));
+        Check.due("P39 in a branch", 1, x.writes(0));
     }
 
     private static void firstAbove() {
