@@ -1305,8 +1305,8 @@ public final class Rewinder {
     }
 
     /**
-     * A process has few frames, or is over. Ahead of a moment at which a process is the present one
-     * it never was over, so that going back can ask the same as going forward.
+     * That a process has few frames. Going back can ask the same as going forward, though it must not stop
+     * where the process is over: ahead of a moment at which a process is the present one it never was over.
      */
     private static final class FrameGoal extends Goal {
         private final int process;
@@ -1321,8 +1321,11 @@ public final class Rewinder {
 
         boolean isAt(State state) {
             Process watched = state.process(process);
-            return watched.over
-                || watched.depth <= mostFrames && (!mustBeActive || state.active == process);
+            boolean hasFew = watched.depth <= mostFrames;
+            if (mustBeActive) {
+                return hasFew && (watched.over || state.active == process);
+            }
+            return hasFew || watched.over;
         }
     }
 

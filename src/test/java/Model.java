@@ -410,7 +410,7 @@ public final class Model {
         Moment m = at(run(), now);
         int p = m.present;
         int frames = m.frames.get(p).size();
-        ahead(60, n -> !(n.frames.get(p).size() <= frames && n.present == p || n.over[p]));
+        ahead(60, n -> !(n.frames.get(p).size() <= frames && (n.present == p || n.over[p])));
         return now;
     }
 

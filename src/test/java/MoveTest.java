@@ -216,9 +216,23 @@ public final class MoveTest {
         Check.due("P11 the process 1", 6, x.next());
         afterLooking();
         Rewinder over = Check.begun("c 0 2; o 0; c 0 40; k 1 1; j 1 4", 3);
-        Check.due("P11 over in a call, while the other one goes on", 2, over.next());
+        Check.due("P11 over with more frames is not enough", 60, over.next());
         Check.due("P11 it is", true, over.isOver(0));
         Check.due("P11 with its frames", 2, over.frames(0));
+        over.go(1);
+        Check.due("P11 also with one", 61, over.next());
+        Rewinder few = Check.begun("r; k 1 1; j 1 2", 1);
+        Check.due("P11 over with as many frames", 1, few.next());
+        Check.due("P11 it is", true, few.isOver(0));
+        Check.due("P11 while the other one goes on", 1, few.present());
+        Rewinder fewer = Check.begun("c 0 2; r; r; k 1 1; j 1 4", 3);
+        fewer.forward(1);
+        Check.due("P11 fewer frames", 2, fewer.next());
+        Check.due("P11 over with fewer", 3, fewer.next());
+        Rewinder same = Check.begun("c 0 1; k 0 1; j 3 0; j 0 40; k 1 1; j 1 5", 4);
+        same.forward(3);
+        Check.due("P11 over with a frame, as now", 4, same.next());
+        Check.due("P11 it is", 1, same.frames(0));
     }
 
     private static void afterLooking() {
