@@ -138,6 +138,9 @@ public final class SliceTest {
         steps("ahead of it", x, 0, 10, 11, 14);
         x.go(0);
         steps("at 0", x, 0);
+        Rewinder told = Check.begun("k 2 5; l 3 2; s 3 3");
+        told.forward(3);
+        steps("the register that tells the cell that is read", told, 0, 1, 2, 3);
         Rewinder y = Check.begun("k 0 1; k 1 2; k 2 3; - 3 1 0; s 3 3; - 3 0 2; s 0 3; < 3 2 1; s 0 3");
         y.forward(5);
         steps("b, then c", y, 1, 1, 2, 4, 5);
