@@ -908,8 +908,7 @@ public final class Rewinder {
             for (int i = 0; i < CELLS; i++) {
                 cells[i] = 0;
             }
-            System.arraycopy(instructions, 0, code, 0, PLACES);
-            codeSize = count;
+            takeCode(instructions, count);
             first.start(0, count);
             second.start(secondPlace, count);
             fed.clear();
@@ -924,10 +923,16 @@ public final class Rewinder {
             second.copyFrom(state.second);
             fed.copyFrom(state.fed);
             put.copyFrom(state.put);
-            System.arraycopy(state.code, 0, code, 0, PLACES);
-            codeSize = state.codeSize;
+            takeCode(state.code, state.codeSize);
             active = state.active;
             time = state.time;
+        }
+
+        private void takeCode(Instruction[] instructions, int count) {
+            for (int i = 0; i < PLACES && i < instructions.length; i++) {
+                code[i] = instructions[i];
+            }
+            codeSize = count;
         }
 
         Process process(int number) {
@@ -1096,7 +1101,9 @@ public final class Rewinder {
             System.arraycopy(run.writers, 0, writers, 0, writers.length);
             System.arraycopy(run.callers, 0, callers, 0, callers.length);
             eventCount = run.firstEventFrom(moment + 1);
-            System.arraycopy(run.log, 0, log, 0, eventCount);
+            for (int i = 0; i < eventCount && i < EVENTS; i++) {
+                log[i] = run.log[i];
+            }
             snapshotCount = 0;
             for (int i = 0; i < run.snapshotCount && run.snapshotCounts[i] <= moment; i++) {
                 snapshots[i].copyFrom(run.snapshots[i]);

@@ -70,7 +70,8 @@ public final class SumTest {
     }
 
     private static void ofAll() {
-        Rewinder x = Check.begun("c 0 2; r; k 0 -9; c 0 5; r; s 0 0; i 1; o 1; y; o 0; r; c 0 13; r; c 0 15; r; t 3; y", 11);
+        Rewinder x = Check.begun("c 0 2; r; k 0 -9; c 0 5; r; s 0 0; i 1; o 1; y; o 0; r;"
+            + " c 0 13; r; c 0 15; r; t 3; y", 11);
         x.feed(100);
         x.feed(-200);
         x.feed(300);
