@@ -23,11 +23,13 @@ public final class KeepEdgeTest {
         passesOver99();
         eightBreaks();
         branches();
+        branchesOfTheirOwn();
         branchesAtEdges();
         branchesOfSnapshots();
         fiveRuns();
         slices();
         slicesOfChanges();
+        slicesOfBoth();
         TERMS.isTold();
         Check.finish();
     }
@@ -226,7 +228,7 @@ public final class KeepEdgeTest {
         Check.due("writerOf()", 2, x.writerOf(1));
         Check.due("callerOf()", -1, x.callerOf(1));
         Check.due("writes()", 1, x.writes(1));
-        Check.due("pages()", x.pages(), x.pages());
+        Check.due("pages()", 16, x.pages());
         Check.due("nothing", 0, x.again());
         Check.due("goBack(), past all up to 103", 'b', x.goBack());
         Check.due("goBack() counts the way alone", 7, x.again());
@@ -420,6 +422,28 @@ public final class KeepEdgeTest {
         Check.due("its snapshots up to there", List.of(0, 16), snapshots(x));
     }
 
+    private static void branchesOfTheirOwn() {
+        Rewinder x = Check.begun("c 0 2; r; i 0; o 0; j 0 2");
+        x.branch();
+        x.feed(5);
+        x.feed(6);
+        x.patch(0, 'k', 2, 1, 0);
+        x.patch(1, 'c', 0, 2, 0);
+        x.forward(17);
+        Check.due("where its frame returns", 2, x.returnsTo(0, 0));
+        long ofBranch = x.sum();
+        x.select(0);
+        x.feed(7);
+        x.feed(8);
+        x.forward(17);
+        Check.due("where its frame returns", 1, x.returnsTo(0, 0));
+        long ofFirst = x.sum();
+        x.select(1);
+        Check.due("all that a branch has is its own", ofBranch, x.sum());
+        x.select(0);
+        Check.due("all that the first one has, too", ofFirst, x.sum());
+    }
+
     private static void branchesAtEdges() {
         Rewinder x = Check.begun(Check.LOOP);
         x.tick(1);
@@ -522,6 +546,9 @@ public final class KeepEdgeTest {
         Rewinder others = Check.begun("k 0 1; o 0; j 0 3; c 0 4; k 1 9; s 0 1; r");
         others.forward(6);
         hangs("'o', 'j' and 'c' set nothing", others, 1, 1, 5, 6);
+        Rewinder zero = Check.begun("s 0 1; k 1 5; k 2 0; l 3 2; s 1 3");
+        zero.forward(5);
+        hangs("'l' of the cell 0, told by a register behind the first", zero, 5, 1, 2, 3, 4, 5);
         Rewinder limit = Check.begun("k 0 0; j 1 0; s 0 0; k 1 1; j 1 1");
         Check.stepForward(limit, 399);
         limit.patch(limit.place(0), 's', 0, 1, 0);
@@ -529,6 +556,21 @@ public final class KeepEdgeTest {
         Check.due("the last step", true, limit.hangsOn(0, 400));
         Check.due("none behind it", false, limit.hangsOn(0, 401));
         Check.due("no step 0", false, limit.hangsOn(0, 0));
+    }
+
+    private static void slicesOfBoth() {
+        Rewinder x = Check.begun("k 0 60; s 0 0; k 1 61; s 1 1; k 2 62; s 2 2; k 3 63; s 3 3; y; r;"
+            + " k 0 0; k 1 1; k 2 2; k 3 3; s 0 0; s 1 1; s 2 2; s 3 3; y", 10);
+        x.forward(17);
+        for (int i = 0; i < 4; i++) {
+            hangs("a cell that the process 0 set", x, 60 + i, 2 * i + 1, 2 * i + 2);
+            hangs("a cell that the process 1 set", x, i, 10 + i, 14 + i);
+        }
+        Rewinder same = Check.begun("k 0 1; y; s 1 0; k 0 2; y", 3);
+        same.forward(4);
+        Check.due("back in the process 0", 0, same.present());
+        same.forward(1);
+        hangs("each process has its own registers", same, 0, 1, 5);
     }
 
     private static void slicesOfChanges() {

@@ -8,6 +8,7 @@ public final class MoveEdgeTest {
         add();
         setSecond();
         begin();
+        beginFromAnywhere();
         instructions();
         forward();
         back();
@@ -110,6 +111,43 @@ public final class MoveEdgeTest {
         x.forward(1);
         Check.due("without the patch", 1, x.register(0, 0));
         Check.due("a new step alone", 0.0f, x.againShare());
+    }
+
+    private static void beginFromAnywhere() {
+        Rewinder x = Check.machine("c 0 3; y; r; i 0; s 0 0; + 1 1 0; s 1 1; o 1; j 0 3; c 0 3");
+        x.setSecond(9);
+        x.begin();
+        long first = x.sum();
+        x.feed(3);
+        x.feed(4);
+        x.change(0, 5);
+        x.tick(6);
+        x.forward(40);
+        x.swap();
+        x.forward(40);
+        x.branch();
+        x.forward(1);
+        x.select(0);
+        x.feed(7);
+        Check.due("a number is left", 1, x.console());
+        Check.due("the process 1 in a call", 1, x.frames(1));
+        x.begin();
+        Check.due("all of the state is as at first", first, x.sum());
+        Check.due("no events of the run before", 0, x.events());
+        Check.due("no pages of the run before", 8, x.pages());
+        Check.due("no slices of the run before", 0, x.slice(0));
+        Check.due("no writes of the run before", 0, x.writes(3));
+        Check.due("the process 0", 0, x.present());
+        x.feed(8);
+        Check.due("an event as at first", 1, x.console());
+        x.tick(9);
+        Check.due("an event as at first", 9, x.clock());
+        x.forward(2);
+        Check.due("the first number of this run", 8, x.register(0, 0));
+        x.branch();
+        Check.due("a branch without the events of the one before", 2, x.events());
+        Check.due("a branch without the snapshots of the one before", 1, x.snapshots());
+        Check.due("a branch without the pages of the one before", 8, x.pages());
     }
 
     private static void instructions() {
@@ -385,6 +423,13 @@ public final class MoveEdgeTest {
         Rewinder both = Check.begun("c 0 40");
         both.forward(1);
         Check.due("over: no step more", 1, both.finish());
+        Rewinder swapped = Check.begun("c 0 2; k 0 9; r; k 3 1; j 3 4", 3);
+        swapped.forward(2);
+        swapped.swap();
+        swapped.forward(9);
+        swapped.go(1);
+        Check.due("fewer frames, though the other one is present then", 2, swapped.finish());
+        Check.due("it is", 1, swapped.present());
     }
 
     private static void finishAtSixty() {
@@ -459,6 +504,10 @@ public final class MoveEdgeTest {
         Check.due("past as many", 1, x.backFinish());
         x.go(5);
         Check.due("past as many and more", 0, x.backFinish());
+        Rewinder two = Check.begun("y; c 0 2; y; k 0 1; j 0 4", 1);
+        two.forward(6);
+        Check.due("the process 1", 1, two.present());
+        Check.due("past what the process 0 did meanwhile", 1, two.backFinish());
         Rewinder six = Check.begun("c 0 0");
         six.forward(7);
         for (int moment = 5; moment >= 0; moment--) {

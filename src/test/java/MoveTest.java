@@ -355,6 +355,6 @@ public final class MoveTest {
         two.forward(3);
         Check.due("P14 0 in its call", 1, two.present());
         Check.due("P14 1 has a frame", 1, two.frames(1));
-        Check.due("P14 also where it was not the present one", 1, two.backFinish());
+        Check.due("P14 past what the other one did meanwhile", 1, two.backFinish());
     }
 }

@@ -20,6 +20,8 @@ public final class RunEdgeTest {
         forwardAheadOfTheEnd();
         goOnAheadOfTheEnd();
         callsAheadOfTheEnd();
+        eventsAheadOfTheEnd();
+        switchesAheadOfTheEnd();
         events();
         eventsAtTheEnd();
         eventsThatChangeNothing();
@@ -254,6 +256,60 @@ public final class RunEdgeTest {
             Check.due("finish() with " + row[0], row[1], finish.finish());
             costs("finish() with " + row[0], finish, 1, row[2] - 1, row[3]);
         }
+    }
+
+    /** What goes forward looks for where it ends: the events of the run come about there, too. */
+    private static void eventsAheadOfTheEnd() {
+        Rewinder x = Check.begun("l 0 1; j 2 0; l 0 1; k 2 1; j 2 2");
+        x.forward(5);
+        x.change(0, 8);
+        x.forward(5);
+        x.change(0, 9);
+        x.forward(10);
+        Check.noElement("looking first, without an event", () -> x.without(0));
+        x.addBreak(3, 0, 8, 0);
+        x.addBreak(3, 0, 9, 0);
+        x.go(1);
+        Check.due("to the number of the first event", 'b', x.goOn());
+        Check.due("there", 6, x.now());
+        x.go(9);
+        Check.due("to the number of the second event", 'b', x.goOn());
+        Check.due("there", 12, x.now());
+        x.isSound();
+        x.go(2);
+        x.branch();
+        x.forward(9);
+        x.go(2);
+        Check.due("in a branch without them", 'l', x.goOn());
+        x.select(0);
+        x.go(2);
+        Check.due("in the first one", 'b', x.goOn());
+        Check.due("there", 6, x.now());
+    }
+
+    private static void switchesAheadOfTheEnd() {
+        Rewinder x = Check.begun("k 0 1; k 0 2; k 0 3; j 0 0; k 3 1; j 3 4", 4);
+        x.forward(2);
+        x.swap();
+        x.forward(4);
+        x.swap();
+        x.forward(9);
+        Check.noElement("looking first, without a switch", () -> x.without(0));
+        x.go(1);
+        Check.due("past the moments of the process 1", 6, x.next());
+        Check.noElement("looking first, without the other switch", () -> x.without(1));
+        x.go(1);
+        Check.due("past the moments of the process 1", 6, x.next());
+        x.go(1);
+        x.branch();
+        x.forward(9);
+        Check.due("looking first, at a branch without them", true, x.isSound());
+        x.go(1);
+        Check.due("in the branch", 2, x.next());
+        Check.due("looking first, at a branch without them", true, x.isSound());
+        x.select(0);
+        x.go(1);
+        Check.due("past the moments of the process 1", 6, x.next());
     }
 
     // ---- Log ----

@@ -213,11 +213,27 @@ public final class SearchEdgeTest {
         Check.due("of the present run", 9, x.pages());
         x.forward(1);
         Check.due("of the present run, with its own one", 12, x.pages());
-        Rewinder last = Check.loop(15);
-        last.change(62, 1);
-        last.patch(last.place(0), 's', 3, 3, 0);
-        last.forward(1);
-        Check.due("the 's' of the count itself, and a change ahead of it", 10, last.pages());
+        Rewinder first = Check.begun("s 0 0; k 1 1; j 1 2");
+        first.forward(16);
+        Check.due("one 's', the step 1", 9, first.pages());
+        for (int step : new int[] {3, 15, 16, 17, 32, 385, 400}) {
+            int behind = (step + 15) / 16 * 16;
+            for (int cell : new int[] {0, 7, 8, 63}) {
+                Check.due("one 's', the step " + step, 9, pagesOfOne(step, cell, behind));
+            }
+            Check.due("an 's', the step " + step + ", behind the last snapshot", 8, pagesOfOne(step, 63, behind - 1));
+        }
+    }
+
+    /** The pages of a run that has one 's', at a step from 3 on, and goes on up to an end. */
+    private static int pagesOfOne(int step, int cell, int end) {
+        Rewinder x = Check.begun("k 1 1; k 0 " + cell + "; j 1 2; j 1 2");
+        Check.stepForward(x, Math.min(end, step - 1));
+        x.patch(2, 's', 0, 1, 0);
+        Check.stepForward(x, Math.min(end, step) - x.now());
+        x.patch(2, 'j', 1, 2, 0);
+        Check.stepForward(x, end - x.now());
+        return x.pages();
     }
 
     private static void pagesOfThinned() {
@@ -362,6 +378,8 @@ public final class SearchEdgeTest {
         Check.due("changed", 0, x.slice(0));
         x.go(398);
         Check.due("ahead of the last 's'", 134, x.slice(0));
+        x.go(0);
+        Check.due("none at 0", 0, x.slice(0));
         Rewinder all = Check.begun("k 0 0; + 1 1 1; s 0 1; j 2 0");
         all.forward(3);
         for (int i = 0; i < 3; i++) {
@@ -601,6 +619,11 @@ public final class SearchEdgeTest {
         Rewinder none = new Rewinder();
         none.begin();
         Check.due("without code", true, none.isSound());
+        Rewinder changed = Check.begun("k 0 1");
+        changed.change(0, 5);
+        Check.due("a change as the first of all events", true, changed.isSound());
+        changed.forward(1);
+        Check.due("a change as the first of all events", true, changed.isSound());
         Rewinder x = Check.begun("k 1 -1; s 1 1; + 1 1 1; k 2 1; s 2 1; i 3; j 2 1");
         for (int round = 0; round < 8; round++) {
             x.feed(round);

@@ -188,6 +188,13 @@ public final class StateEdgeTest {
         }
         Check.due("the last one", 5, x.removeBreak(7));
         Check.unsupported("its number is not given again", () -> x.addBreak(1, -1, 0, 0));
+        Rewinder ends = Check.begun("k 0 1");
+        for (int i = 0; i < 8; i++) {
+            ends.addBreak(0, -1, 0, 0);
+        }
+        for (int i = 7; i >= 0; i--) {
+            Check.due("the ones ahead of it are left", i, ends.removeBreak(i));
+        }
     }
 
     private static void met() {
