@@ -488,11 +488,11 @@ public final class RunEdgeTest {
         return sum.longValue();
     }
 
-    /** The numbers of a state, as the document lists them; those of the console its face does not tell. */
-    private static List<Integer> items(Rewinder x, int... console) {
+    /** The numbers of a state, as the document lists them. */
+    private static List<Integer> items(Rewinder x, int[] cells, int... console) {
         List<Integer> items = new ArrayList<>();
-        for (int cell = 0; cell < 64; cell++) {
-            items.add(x.cell(cell));
+        for (int cell : cells) {
+            items.add(cell);
         }
         for (int process = 0; process < 2; process++) {
             for (int register = 0; register < 4; register++) {
@@ -500,8 +500,9 @@ public final class RunEdgeTest {
             }
             items.add(x.place(process));
             items.add(x.isOver(process) ? 1 : 0);
-            items.add(x.frames(process));
-            for (int frame = 0; frame < x.frames(process); frame++) {
+            int frames = x.frames(process);
+            items.add(frames);
+            for (int frame = 0; frame < frames; frame++) {
                 items.add(x.returnsTo(process, frame));
             }
         }
@@ -511,8 +512,9 @@ public final class RunEdgeTest {
         for (int number : console) {
             items.add(number);
         }
-        items.add(x.outputs());
-        for (int i = 0; i < x.outputs(); i++) {
+        int outputs = x.outputs();
+        items.add(outputs);
+        for (int i = 0; i < outputs; i++) {
             items.add(x.outputAt(i));
         }
         return items;
@@ -525,39 +527,42 @@ public final class RunEdgeTest {
             + " the number of numbers in the console and these; the number of numbers that were put out and these.");
         Rewinder none = new Rewinder();
         none.begin();
-        Check.due("without code", sumOf(items(none)), none.sum());
-        Check.due("its numbers", 64 + 7 + 7 + 4, items(none).size());
+        Check.due("without code", sumOf(items(none, new int[64])), none.sum());
+        Check.due("its numbers", 64 + 7 + 7 + 4, items(none, new int[64]).size());
         Rewinder x = Check.begun("c 0 1; c 0 2; c 0 3; c 0 4; c 0 5; c 0 6; o 0; i 1; o 1; y; c 0 11; c 0 12; y", 10);
-        Check.due("at first", sumOf(items(x)), x.sum());
+        int[] cells = new int[64];
+        Check.due("at first", sumOf(items(x, cells)), x.sum());
         x.feed(5);
-        Check.due("one number in the console", sumOf(items(x, 5)), x.sum());
+        Check.due("one number in the console", sumOf(items(x, cells, 5)), x.sum());
         x.feed(-6);
-        Check.due("two numbers", sumOf(items(x, 5, -6)), x.sum());
+        Check.due("two numbers", sumOf(items(x, cells, 5, -6)), x.sum());
         x.tick(-1);
-        Check.due("the clock", sumOf(items(x, 5, -6)), x.sum());
+        Check.due("the clock", sumOf(items(x, cells, 5, -6)), x.sum());
         x.change(0, 3);
-        Check.due("the first cell", sumOf(items(x, 5, -6)), x.sum());
-        x.change(63, 3);
-        Check.due("the last cell", sumOf(items(x, 5, -6)), x.sum());
+        cells[0] = 3;
+        Check.due("the first cell", sumOf(items(x, cells, 5, -6)), x.sum());
+        x.change(63, 4);
+        cells[63] = 4;
+        Check.due("the last cell", sumOf(items(x, cells, 5, -6)), x.sum());
         for (int frames = 1; frames <= 6; frames++) {
             x.forward(1);
             Check.due("frames", frames, x.frames(0));
-            Check.due("the last one first: " + frames, sumOf(items(x, 5, -6)), x.sum());
+            Check.due("the last one first: " + frames, sumOf(items(x, cells, 5, -6)), x.sum());
         }
         x.forward(1);
-        Check.due("one was put out", sumOf(items(x, 5, -6)), x.sum());
+        Check.due("one was put out", sumOf(items(x, cells, 5, -6)), x.sum());
         x.forward(1);
-        Check.due("one is gone from the console", sumOf(items(x, -6)), x.sum());
+        Check.due("one is gone from the console", sumOf(items(x, cells, -6)), x.sum());
         x.forward(2);
         Check.due("the process 1", 1, x.present());
-        Check.due("two were put out", sumOf(items(x, -6)), x.sum());
+        Check.due("two were put out", sumOf(items(x, cells, -6)), x.sum());
         x.forward(2);
-        Check.due("frames of both", sumOf(items(x, -6)), x.sum());
+        Check.due("frames of both", sumOf(items(x, cells, -6)), x.sum());
         x.forward(1);
         Check.due("the process 0, too far", 0, x.present());
         x.forward(1);
         Check.due("is over, with frames", true, x.isOver(0));
-        Check.due("over", sumOf(items(x, -6)), x.sum());
+        Check.due("over", sumOf(items(x, cells, -6)), x.sum());
     }
 
     private static void sumsOfExtremes() {
@@ -571,12 +576,17 @@ public final class RunEdgeTest {
         Check.stepForward(x, 1 + 5 * 70);
         Check.due("the cells are full", MOST, x.cell(63));
         Check.due("70 were put out", 70, x.outputs());
-        Check.due("goes round", sumOf(items(x, LEAST, MOST)), x.sum());
+        int[] cells = new int[64];
+        for (int cell = 0; cell < 64; cell++) {
+            cells[cell] = x.cell(cell);
+        }
+        Check.due("goes round", sumOf(items(x, cells, LEAST, MOST)), x.sum());
         x.change(7, 0);
+        cells[7] = 0;
         x.tick(MOST);
-        Check.due("goes round", sumOf(items(x, LEAST, MOST)), x.sum());
+        Check.due("goes round", sumOf(items(x, cells, LEAST, MOST)), x.sum());
         x.forward(1);
-        Check.due("one less in the console", sumOf(items(x, MOST)), x.sum());
+        Check.due("one less in the console", sumOf(items(x, cells, MOST)), x.sum());
         Check.due("sound", true, x.isSound());
     }
 }
