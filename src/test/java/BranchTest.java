@@ -6,6 +6,7 @@ public final class BranchTest {
         branchKeeps();
         select();
         selectOther();
+        selectDeep();
         difference();
         differenceOfEvents();
         Check.finish();
@@ -131,6 +132,24 @@ public final class BranchTest {
         Check.due("P46 its frame", back, x.returnsTo(0, 0));
         x.select(0);
         Check.due("P46 all of the state", first, x.sum());
+    }
+
+    private static void selectDeep() {
+        Rewinder x = Check.begun("c 0 1; c 0 2; c 0 3; c 0 4; c 0 5; c 0 6; k 0 1; j 0 6;"
+            + " c 0 9; c 0 10; c 0 11; c 0 12; c 0 13; k 0 1; j 0 13");
+        x.branch();
+        x.patch(0, 'c', 0, 8, 0);
+        x.forward(40);
+        x.select(0);
+        x.forward(40);
+        for (int run = 1; run >= 0; run--) {
+            x.select(run);
+            Check.due("P46 six frames", 6, x.frames(0));
+            for (int frame = 0; frame < 6; frame++) {
+                int due = run == 0 ? 6 - frame : frame == 5 ? 1 : 13 - frame;
+                Check.due("P46 all frames of the run " + run + ": " + frame, due, x.returnsTo(0, frame));
+            }
+        }
     }
 
     private static void difference() {

@@ -32,6 +32,11 @@ public final class BreakTest {
         x.branch();
         Check.unsupported("P20 also in a branch", () -> x.addBreak(0, 0, 0, 0));
         x.begin();
+        for (int i = 0; i < 8; i++) {
+            int gone = i;
+            Check.noElement("P4 all breaks are gone: " + i, () -> x.met(gone));
+            Check.noElement("P4 all breaks are gone: " + i, () -> x.removeBreak(gone));
+        }
         Check.due("P20 from 0 on", 0, x.addBreak(0, 0, 0, 0));
     }
 

@@ -120,6 +120,10 @@ public final class EventTest {
         Check.due("P19 is the code of the run alone", 3, x.begin());
         x.forward(3);
         Check.due("P19 the first code", 2, x.register(0, 1));
+        Rewinder three = Check.begun("k 1 5; k 2 7; + 0 0 0; k 0 1");
+        Check.due("P19 letter before", '+', three.patch(2, '-', 3, 1, 2));
+        three.forward(3);
+        Check.due("P19 all three numbers", -2, three.register(0, 3));
     }
 
     private static void patchRefuses() {

@@ -319,6 +319,7 @@ public final class MachineEdgeTest {
         both.forward(8);
         Check.due("the process 1 is over instead", true, both.isOver(1));
         Check.due("with its 6 frames", 6, both.frames(1));
+        Check.due("at the place of this 'c'", 2, both.place(1));
         Check.due("the process 0 goes on", 0, both.present());
         both.forward(6);
         Check.due("with 6 frames of its own", 6, both.frames(0));

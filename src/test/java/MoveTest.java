@@ -294,6 +294,11 @@ public final class MoveTest {
         other.forward(1);
         Check.due("P12 the other one is the present one meanwhile", 5, other.finish());
         Check.due("P12 back", 1, other.place(0));
+        Rewinder second = Check.begun("y; k 0 1; j 0 1; c 0 5; k 1 1; k 2 2; r", 3);
+        second.forward(2);
+        Check.due("P12 the process 1, though 0 has no frame", 4, second.finish());
+        second.back(1);
+        Check.due("P12 the process 1, in the run", 4, second.finish());
         Rewinder swapped = Check.begun("c 0 2; k 0 9; r; k 3 1; j 3 4", 3);
         swapped.forward(2);
         swapped.swap();

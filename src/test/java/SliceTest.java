@@ -67,6 +67,9 @@ public final class SliceTest {
         Check.due("the cell that a cell tells", 4, reads.cell(3));
         steps("s: the register that tells the cell", reads, 3, 6, 5, 3, 2, 1);
         steps("not the cell that it is told in", reads, 4, 4, 3);
+        Rewinder one = Check.begun("k 0 3; k 1 4; s 1 1; l 2 0 1; s 3 2");
+        one.forward(5);
+        steps("l: its c is of no meaning", one, 0, 5, 4, 1);
     }
 
     private static void changes() {
