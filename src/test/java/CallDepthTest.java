@@ -21,6 +21,10 @@ public final class CallDepthTest {
     private static final Map<String, Integer> DEPTHS = new HashMap<>();
 
     public static void main(String[] args) throws Exception {
+        if (ToolProvider.findFirst("javap").isEmpty()) {
+            System.out.println("this Java does not show what a class calls");
+            return;
+        }
         List<Class<?>> all = new ArrayList<>(List.of(Rewinder.class.getDeclaredClasses()));
         all.add(Rewinder.class);
         for (Class<?> type : all) {

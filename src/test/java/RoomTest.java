@@ -1,28 +1,34 @@
 import java.lang.management.ManagementFactory;
+import java.lang.reflect.Method;
 
 /** A run of 512 calls takes little of the room in which all its calls live. */
 public final class RoomTest {
-    private static final com.sun.management.ThreadMXBean ROOM =
-        (com.sun.management.ThreadMXBean) ManagementFactory.getThreadMXBean();
     // A tenth of 600,000 objects and 7.3 million fields and elements, at 16 bytes and 4 bytes each.
     private static final long BYTES = (600_000L * 16 + 7_300_000L * 4) / 10;
 
-    public static void main(String[] args) {
-        if (!ROOM.isThreadAllocatedMemorySupported()) {
-            System.out.println("this machine does not tell what is taken");
+    public static void main(String[] args) throws ReflectiveOperationException {
+        Method told;
+        try {
+            told = Class.forName("com.sun.management.ThreadMXBean").getMethod("getThreadAllocatedBytes", long.class);
+        } catch (ClassNotFoundException e) {
+            System.out.println("this Java does not tell what is taken");
             return;
         }
-        taken();
-        long bytes = taken();
+        taken(told);
+        long bytes = taken(told);
         Check.due("a run of calls takes some room", true, bytes > 0);
         Check.due("not " + bytes + " bytes", true, bytes < BYTES);
         Check.finish();
     }
 
-    private static long taken() {
-        long before = ROOM.getThreadAllocatedBytes(Thread.currentThread().getId());
+    private static long taken(Method told) throws ReflectiveOperationException {
+        long before = now(told);
         run();
-        return ROOM.getThreadAllocatedBytes(Thread.currentThread().getId()) - before;
+        return now(told) - before;
+    }
+
+    private static long now(Method told) throws ReflectiveOperationException {
+        return (Long) told.invoke(ManagementFactory.getThreadMXBean(), Thread.currentThread().getId());
     }
 
     /** Ten calls ahead of the loop, and 20 times 25 or one less: an object is used for 512. */
